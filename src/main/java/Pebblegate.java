@@ -1002,75 +1002,72 @@ public final class Pebblegate {
     }
 
     /**
-     * The told WEIGHINGS. Row i of changes is the sum of CHANGES that row i of parts tells, PLACE by
-     * PLACE. The rows ahead of the last one belong to the TIED PLACES; the last one is that of the
-     * PLACE that is looked at, and its parts are a WEIGHING if all its changes can be cancelled.
+     * The told WEIGHINGS. Row p of changes is the sum of CHANGES that row p of parts tells, PLACE by
+     * PLACE: that of PLACE p, from which those of the TIED lesser ones have cancelled what they can.
+     * If nothing of it is left, the parts are a WEIGHING.
      */
     private static final class Scales {
         int count = 0;
         final int[][] numbers = new int[MAX_PLACES][MAX_PLACES];
-        private int tied = 0;
         private final long[][] changes = new long[MAX_PLACES][MAX_STEPS];
         private final long[][] parts = new long[MAX_PLACES][MAX_PLACES];
+        // The first STEP at which a row of changes is not 0, by which the row cancels; NONE if FREE.
         private final int[] pivots = new int[MAX_PLACES];
 
         void settle(Net net) {
             count = 0;
-            tied = 0;
-            // Each PLACE adds 1 to tied or to count, so that both stay below MAX_PLACES in here.
             for (int p = 0; p < net.places; p++) {
                 load(net, p);
-                for (int t = 0; t < tied; t++) {
-                    cancel(t);
+                for (int lesser = 0; lesser < p; lesser++) {
+                    if (pivots[lesser] != NONE) {
+                        cancel(p, lesser, pivots[lesser]);
+                    }
                 }
-                int pivot = firstChange();
-                if (pivot == NONE) {
+                pivots[p] = firstChange(p);
+                if (pivots[p] == NONE) {
                     tellFree(p);
-                } else {
-                    pivots[tied] = pivot;
-                    tied++;
                 }
             }
         }
 
         private void load(Net net, int place) {
             for (int s = 0; s < MAX_STEPS; s++) {
-                changes[tied][s] = net.change(s, place);
+                changes[place][s] = net.change(s, place);
             }
             for (int p = 0; p < MAX_PLACES; p++) {
-                parts[tied][p] = p == place ? 1 : 0;
+                parts[place][p] = p == place ? 1 : 0;
             }
         }
 
-        private void cancel(int t) {
-            long mine = changes[tied][pivots[t]];
-            long other = changes[t][pivots[t]];
+        private void cancel(int place, int tied, int pivot) {
+            long mine = changes[place][pivot];
+            long other = changes[tied][pivot];
             if (mine == 0) {
                 return;
             }
             for (int s = 0; s < MAX_STEPS; s++) {
-                changes[tied][s] = changes[tied][s] * other - changes[t][s] * mine;
+                changes[place][s] = changes[place][s] * other - changes[tied][s] * mine;
             }
             for (int p = 0; p < MAX_PLACES; p++) {
-                parts[tied][p] = parts[tied][p] * other - parts[t][p] * mine;
+                parts[place][p] = parts[place][p] * other - parts[tied][p] * mine;
             }
-            shorten();
+            shorten(place);
         }
 
         // Without this the numbers could outgrow a long; what divides all parts divides all changes.
-        private void shorten() {
+        private void shorten(int place) {
             long shared = 0;
             for (int p = 0; p < MAX_PLACES; p++) {
-                shared = commonDivisor(shared, parts[tied][p]);
+                shared = commonDivisor(shared, parts[place][p]);
             }
             if (shared <= 1) {
                 return;
             }
             for (int s = 0; s < MAX_STEPS; s++) {
-                changes[tied][s] /= shared;
+                changes[place][s] /= shared;
             }
             for (int p = 0; p < MAX_PLACES; p++) {
-                parts[tied][p] /= shared;
+                parts[place][p] /= shared;
             }
         }
 
@@ -1085,9 +1082,9 @@ public final class Pebblegate {
             return a;
         }
 
-        private int firstChange() {
+        private int firstChange(int place) {
             for (int s = 0; s < MAX_STEPS; s++) {
-                if (changes[tied][s] != 0) {
+                if (changes[place][s] != 0) {
                     return s;
                 }
             }
@@ -1095,9 +1092,9 @@ public final class Pebblegate {
         }
 
         private void tellFree(int place) {
-            int sign = parts[tied][place] < 0 ? -1 : 1;
+            int sign = parts[place][place] < 0 ? -1 : 1;
             for (int p = 0; p < MAX_PLACES; p++) {
-                numbers[count][p] = (int) (sign * parts[tied][p]);
+                numbers[count][p] = (int) (sign * parts[place][p]);
             }
             count++;
         }

@@ -9,6 +9,7 @@ import java.util.function.Supplier;
 final class ModelTest {
     private static final int RUNS = 1500;
     private static final int CALLS = 512;
+    private static final int DENSE_NETS = 400;
     private static final int[] ODD = {-2, -1, 8, 9, 16, 100, -100, Integer.MIN_VALUE, Integer.MAX_VALUE};
 
     private final Checks checks = new Checks();
@@ -24,6 +25,9 @@ final class ModelTest {
         ModelTest test = new ModelTest();
         for (int r = 0; r < RUNS && !test.checks.isWrong(); r++) {
             test.runOnce(r);
+        }
+        for (int r = 0; r < DENSE_NETS && !test.checks.isWrong(); r++) {
+            test.weighDense(r);
         }
         test.checkSeen();
         test.checks.end();
@@ -45,6 +49,38 @@ final class ModelTest {
             for (int i = 0; i < many && made < CALLS - 1; i++) {
                 anyCall();
             }
+        }
+        both("digest()", x::digest, m::digest);
+    }
+
+    /** Nets in which each STEP touches each PLACE: their WEIGHINGS have the greatest numbers. */
+    private void weighDense(int r) {
+        runNumber = RUNS + r;
+        made = 0;
+        x = new Pebblegate();
+        m = new Model();
+        int places = r % 2 == 0 ? 8 : 2 + below(7);
+        int steps = r % 2 == 0 ? 7 : 1 + below(8);
+        both("begin(" + places + ")", () -> x.begin(places), () -> m.begin(places));
+        for (int s = 0; s < steps; s++) {
+            both("step()", x::step, m::step);
+            for (int p = 0; p < places; p++) {
+                boolean isTaking = below(2) == 0;
+                int many = r % 4 == 0 ? 3 : below(4);
+                callArc(s, p, isTaking ? many : 0, isTaking ? 0 : many);
+            }
+        }
+        for (int p = 0; p < places; p++) {
+            callSet(p, below(3) == 0 ? 99 : below(100));
+        }
+        both("weighings()", x::weighings, m::weighings);
+        for (int i = 0; i < 8; i++) {
+            int w = i;
+            for (int j = 0; j < places; j++) {
+                int p = j;
+                both("weighing(" + w + ", " + p + ")", () -> x.weighing(w, p), () -> m.weighing(w, p));
+            }
+            both("weight(" + w + ", -1)", () -> x.weight(w, -1), () -> m.weight(w, -1));
         }
         both("digest()", x::digest, m::digest);
     }
