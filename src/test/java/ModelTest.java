@@ -10,6 +10,8 @@ final class ModelTest {
     private static final int RUNS = 1500;
     private static final int CALLS = 512;
     private static final int DENSE_NETS = 400;
+    // A NET is built by fewer calls than these: begin, 8 STEPS with 4 arcs each, 3 MARKS.
+    private static final int BUILDING = 50;
     private static final int[] ODD = {-2, -1, 8, 9, 16, 100, -100, Integer.MIN_VALUE, Integer.MAX_VALUE};
 
     private final Checks checks = new Checks();
@@ -43,10 +45,10 @@ final class ModelTest {
         made = 0;
         x = new Pebblegate();
         m = new Model();
-        while (made < CALLS - 60) {
+        while (made < CALLS - BUILDING - 1) {
             build();
             int many = 20 + below(80);
-            for (int i = 0; i < many && made < CALLS - 1; i++) {
+            for (int i = 0; i < many && made < CALLS - 2; i++) {
                 anyCall();
             }
         }
@@ -264,7 +266,9 @@ final class ModelTest {
         if (!call.startsWith("digest")) {
             seen.merge(call.substring(0, call.indexOf('(')) + " " + (isNoteworthy ? want : "ordinary"), 1, Integer::sum);
         }
-        if (want.startsWith("throws") || want.equals("-9")) {
+        boolean isLeftAlone = want.startsWith("throws") || want.equals("-9");
+        if (isLeftAlone && made < CALLS - 1) {
+            made++;
             checks.due("run " + runNumber + ", behind " + call, x.digest(), m.digest());
         }
     }
