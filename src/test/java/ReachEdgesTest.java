@@ -328,6 +328,16 @@ final class ReachEdgesTest {
         CHECKS.dueDone(flatFirst, "follow, the first one stays below", () -> flatFirst.follow(0), 2);
         CHECKS.due("followed", flatFirst.text(), "97 0 0 0 1");
 
+        // What was asked before does not matter: a WAY that goes above 99 behind where this one ends.
+        Pebblegate onward = Nets.net(4, new int[][] {
+            {0, 0, 1, 0, 0, 1, 0, 0}, {0, 3, 0, 0, 1, 0, 0, 1}, {3, 0, 0, 0, 0, 0, 1, 0}
+        }, 98, 1);
+        Nets.keepAs(onward, 0, 98, 0, 0, 0);
+        Nets.keepAs(onward, 1, 98, 0, 1, 0);
+        CHECKS.due("a WAY above 99", onward.way(0, 0), "0 1 2");
+        CHECKS.dueDone(onward, "follow a part of it", () -> onward.follow(1), 1);
+        CHECKS.dueRefused(onward, "follow the rest of it", () -> onward.follow(0));
+
         // A longer row stays below 99: the WAY is the shortest one none the less.
         Pebblegate longer = Nets.net(6, new int[][] {
             {0, 0, 1, 0, 0, 0, 0, 1, 0, 0, 0, 0}, {0, 0, 0, 0, 0, 0, 1, 0, 0, 0, 0, 1}, {0, 0, 0, 0, 0, 1, 0, 0, 0, 0, 1, 0},

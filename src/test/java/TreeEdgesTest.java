@@ -23,6 +23,7 @@ final class TreeEdgesTest {
         freeAndTied();
         leastWholeNumbers();
         weighingsOfEightPlaces();
+        noneWithThatNumberAnyMore();
         weights();
         greatestWeights();
         CHECKS.end();
@@ -129,12 +130,25 @@ final class TreeEdgesTest {
         // STEP 1 needs 3 of PLACE 0: MANY is more than these.
         Pebblegate needs = Nets.net(2, new int[][] {{0, 1, 0, 0}, {3, 0, 0, 1}}, 0, 0);
         dueTree("of MANY a TAKE of 3 can go", needs, 6, 3);
+        // PLACE 0 gets MANY while the mark is at PLACE 1; it goes to PLACE 2, where STEP 2 takes again and again.
+        Pebblegate less = Nets.net(3, new int[][] {{0, 1, 1, 1, 0, 0}, {2, 0, 1, 0, 0, 1}, {1, 0, 0, 0, 1, 1}}, 0, 1, 0);
+        dueTree("MANY less 1 is as MANY", less, 5, 1);
     }
 
     private static void noMany() {
         dueTree("nothing more anywhere", Nets.net(1, new int[][] {{3, 3}}, 3), 2, 0);
         dueTree("more at one PLACE, less at another", Nets.net(2, new int[][] {{1, 0, 0, 3}}, 2, 0), 3, 0);
         dueTree("less at the last PLACE alone", Nets.net(3, new int[][] {{0, 3, 0, 3, 1, 0}}, 0, 0, 1), 2, 0);
+        for (int less = 0; less < 8; less++) {
+            Pebblegate x = new Pebblegate();
+            x.begin(8);
+            x.step();
+            for (int p = 0; p < 8; p++) {
+                x.arc(0, p, p == less ? 3 : 0, p == less ? 2 : 3);
+            }
+            x.set(less, 3);
+            dueTree("less at PLACE " + less + " alone, more at the others", x, 2, 0);
+        }
         // STEP 1's node has more than STEP 0's, but that one is not above it.
         Pebblegate beside = Nets.net(2, new int[][] {{1, 0, 0, 1}, {1, 0, 0, 2}}, 1, 0);
         dueTree("more than one beside it", beside, 3, 0);
@@ -291,6 +305,28 @@ final class TreeEdgesTest {
             thirds.arc(s, s + 1, 0, 3);
         }
         dueWeighings("3 for 2 over 8", thirds, row(2187, 1458, 972, 648, 432, 288, 192, 128));
+    }
+
+    /** What was told before is told no more, whichever of the three is asked first. */
+    private static void noneWithThatNumberAnyMore() {
+        Pebblegate x = new Pebblegate();
+        CHECKS.due("asked first of a new object: weighing", x.weighing(3, 3), 1);
+        x.begin(2);
+        x.set(1, 5);
+        CHECKS.due("asked first: weight", x.weight(1, -1), 5);
+        CHECKS.due("just as many as PLACES: none with that number", x.weighing(2, 1) + " " + x.weight(2, -1), "0 0");
+        x.step();
+        x.arc(0, 0, 0, 1);
+        x.arc(0, 1, 1, 0);
+        CHECKS.due("a STEP ties PLACE 0: weighing", x.weighing(0, 0) + " " + x.weighing(0, 1), "1 1");
+        CHECKS.due("none with number 1 any more: weighing", x.weighing(1, 0) + " " + x.weighing(1, 1), "0 0");
+        CHECKS.due("none with number 1 any more: weight", x.weight(1, -1), 0);
+        x.step();
+        x.arc(1, 1, 0, 1);
+        CHECKS.due("a STEP ties PLACE 1, too: weight", x.weight(0, -1), 0);
+        CHECKS.due("none any more: weighing", x.weighing(0, 0) + " " + x.weighing(0, 1), "0 0");
+        x.strike(1);
+        CHECKS.due("the STEP is gone: weight", x.weight(0, -1), 5);
     }
 
     private static void weights() {
