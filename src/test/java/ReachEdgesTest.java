@@ -32,6 +32,7 @@ final class ReachEdgesTest {
         chancesOfNoneAndOfAll();
         comesBackFromEach();
         comesBackWhereTurnedIsWide();
+        ringsAndComesBackAbove99();
         CHECKS.end();
     }
 
@@ -449,5 +450,23 @@ final class ReachEdgesTest {
         CHECKS.due("no such number, though the NET TURNED is WIDE", stairs.comesBack(1), -1);
         CHECKS.due("the NET is WIDE", Nets.spring().comesBack(0), -9);
         CHECKS.due("the NET is WIDE, the greatest number", Nets.spring().comesBack(15), -9);
+    }
+
+    /** What is REACHED may have MARKS above 99, forward and in the NET TURNED; an act can't go there. */
+    private static void ringsAndComesBackAbove99() {
+        // One at PLACE 1 becomes three at PLACE 0 and one at PLACE 2, and these become one at PLACE 3.
+        int[][] steps = {{0, 3, 1, 0, 0, 1, 0, 0}, {3, 0, 0, 0, 1, 0, 0, 1}, {0, 0, 0, 1, 0, 0, 1, 0}};
+        Pebblegate x = Nets.net(4, steps, 98, 1, 0, 0);
+        CHECKS.due("round above 99: reached", x.reached() + ": " + x.reachedText(1) + ", " + x.reachedText(2), "3: 101 0 1 0, 98 0 0 1");
+        CHECKS.due("round above 99: rings", x.rings(), 7);
+        CHECKS.due("round above 99: again", x.again(0) + " " + x.again(1) + " " + x.again(2), "1 1 1");
+        CHECKS.dueRefused(x, "round above 99: go", () -> x.go(0));
+        x.strike(2);
+        CHECKS.due("from above 99 the NET TURNED comes back", x.comesBack(1), 1);
+        CHECKS.due("by what is above 99 the NET TURNED comes back", x.comesBack(2), 1);
+        Nets.keepAs(x, 0, 98, 0, 0, 1);
+        CHECKS.due("its number", x.number(0), 2);
+        x.recall(0);
+        CHECKS.dueRefused(x, "back above 99", () -> x.back(1));
     }
 }
